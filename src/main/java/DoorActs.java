@@ -17,7 +17,7 @@ public final class DoorActs {
     private static final int OUT = 0, CARDED = 1, KEPT = 2, HANDED_FIRST = 3, HANDED_LAST = 6, REFUSED = 7, KEPT_TOO_LONG = 8;
     private static final int HAND = 0, CARD = 1, REFUSE = 2, DAMAGE = 3, WRONG = 4, LEAVE = 5;
     private static final int TO_RECEIVER = 1, BY_ORDER = 2, TO_NEIGHBOUR = 3, LEFT = 4, FIRST_CARD = 5, SECOND_CARD = 6;
-    private static final int TAKEN_BACK = 7, NOTED = 8, UNDONE = 9;
+    private static final int WAS_REFUSED = 7, DAMAGE_NOTED = 8, HAND_UNDONE = 9;
     private static final int SLIP_OPEN = 0, SLIP_SIGNED = 1, SLIP_SENT = 2;
     private static final int DAMAGED_MORE = 10;
 
@@ -235,11 +235,11 @@ public final class DoorActs {
             case CARD:
                 return seen.state == OUT ? FIRST_CARD : SECOND_CARD;
             case REFUSE:
-                return who == item.receiver || hasOrder(item, who) ? TAKEN_BACK : WHO;
+                return who == item.receiver || hasOrder(item, who) ? WAS_REFUSED : WHO;
             case DAMAGE:
-                return NOTED;
+                return DAMAGE_NOTED;
             case WRONG:
-                return UNDONE;
+                return HAND_UNDONE;
             default:
                 return item.service == PLAIN && consents.stand(item.receiver, LEAVING, NOBODY) ? LEFT : WHO;
         }

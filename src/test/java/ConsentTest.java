@@ -27,6 +27,19 @@ public final class ConsentTest {
         c.due("the ends", x.consent(99, 1, 0), 1);
         c.due("the ends", x.consent(99, 2, 0), 1);
         c.due("the ends, taken back", x.consent(0, 0, 99), 0);
+        noneIsAnother(c);
+    }
+
+    /** Consents whose numbers are next to one another's, or the same in another order. */
+    private static void noneIsAnother(Checks c) {
+        int[][] all = {{1, 0, 98}, {1, 0, 99}, {2, 0, 0}, {2, 0, 1}, {99, 0, 98}, {0, 1, 99}, {0, 1, 1}, {1, 1, 0},
+            {99, 1, 98}, {0, 2, 0}, {1, 2, 0}, {98, 2, 0}, {99, 2, 0}, {10, 0, 1}, {1, 0, 10}, {11, 0, 0}, {0, 0, 11}};
+        DoorActs x = new DoorActs();
+        for (int want = 1; want >= 0; want--) {
+            for (int[] one : all) {
+                c.due("each is its own", x.consent(one[0], one[1], one[2]), want);
+            }
+        }
     }
 
     private static void wrongInputs(Checks c) {

@@ -4,7 +4,7 @@ public final class OffLineTest {
         Checks c = new Checks("OffLineTest");
         itsActsAreItsOwn(c);
         itKnowsWhatWasSo(c);
-        itKnowsTheDays(c);
+        itKnowsDamageAndDays(c);
         itDoesNotSeeTheDay(c);
         twoDevices(c);
         cutAgainKnowsAnew(c);
@@ -45,7 +45,11 @@ public final class OffLineTest {
         c.due("joined, it knows what is so", Acts.damage(x, 2, 1, 0), DoorActs.STATE);
     }
 
-    private static void itKnowsTheDays(Checks c) {
+    private static void itKnowsDamageAndDays(Checks c) {
+        DoorActs damaged = Acts.withItem(0);
+        Acts.damage(damaged, 0, 1, 0);
+        damaged.cut(2, true);
+        c.due("known as damaged", Acts.damage(damaged, 2, 1, 0), DoorActs.STATE);
         DoorActs x = Acts.withItem(0);
         Acts.card(x, 1, 1, Acts.at(3, 0));
         Acts.hand(x, 2, 1, 1, -1, Acts.at(3, 0));
