@@ -7,7 +7,49 @@ public final class JoinTest {
         onlyStatesCount(c);
         wrongHouseRows(c);
         stateBeforeIsThatForAll(c);
+        clashesAmongOthers(c);
+        aClashIsNothingElse(c);
         c.end();
+    }
+
+    private static void clashesAmongOthers(Checks c) {
+        DoorActs x = new DoorActs();
+        for (int item = 1; item <= 5; item++) {
+            x.item(0, 1);
+        }
+        x.cut(1, true);
+        for (int item = 1; item <= 5; item++) {
+            Acts.hand(x, 1, item, 1, -1, 0);
+        }
+        Acts.refuse(x, 0, 2, 1, 0);
+        Acts.refuse(x, 0, 4, 1, 0);
+        c.due("the first clash's number", x.join(1), -1);
+        for (int item = 1; item <= 5; item++) {
+            c.due("item " + item, x.state(item), item % 2 == 0 ? 7 : 3);
+        }
+        c.due("in the order of the rows", x.clash(0, 0), 2);
+        c.due("in the order of the rows", x.clash(1, 0), 4);
+        c.due("no more", x.clash(2, 0), -1);
+    }
+
+    private static void aClashIsNothingElse(Checks c) {
+        DoorActs x = Acts.withItem(4);
+        x.cut(1, true);
+        Acts.damage(x, 1, 1, 0);
+        Acts.hand(x, 1, 1, 1, 4, 0);
+        Acts.wrong(x, 1, 1, 0);
+        Acts.card(x, 1, 1, 0);
+        Acts.damage(x, 0, 1, 0);
+        Acts.hand(x, 0, 1, 1, 4, 0);
+        x.slip(1, 1);
+        c.due("all four clash", x.join(1), -1);
+        c.due("all four clash", x.clash(3, 0), 1);
+        c.due("the state stays", x.state(1), 13);
+        c.due("no card was left", x.tries(1), 0);
+        c.due("the slip stays signed", x.slip(1, -1), 2);
+        c.due("it is still device 0 that handed it over", Acts.wrong(x, 1, 1, 0), DoorActs.STATE);
+        c.due("it is still device 0 that handed it over", Acts.wrong(x, 0, 1, 0), 9);
+        c.due("it was out before", x.state(1), 10);
     }
 
     private static void answers(Checks c) {

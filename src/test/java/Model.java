@@ -123,7 +123,7 @@ final class Model {
     }
 
     int act(int device, int item, int kind, int who, int proof, long t) {
-        boolean off = in(0, device, 7) && views.get(device) != null;
+        boolean off = isOff(device);
         List<List<Event>> known = off ? views.get(device) : forAll;
         if (!in(1, item, known.size())) {
             return -11;
@@ -175,6 +175,10 @@ final class Model {
             default:
                 return kind + 5;
         }
+    }
+
+    boolean isOff(int device) {
+        return in(0, device, 7) && views.get(device) != null;
     }
 
     int join(int device) {

@@ -1,11 +1,13 @@
-import java.util.Arrays;
 import java.util.Random;
 import java.util.Set;
 import java.util.TreeSet;
 
-/** Runs of 512 random calls from fixed seeds, each answered as the model answers it; and one run that is far longer. */
+/**
+ * Runs of 512 random calls from fixed seeds, each answered as the model answers it, and as an object answers it that
+ * was spared the calls that are refused; and one run that is far longer.
+ */
 public final class ModelTest {
-    private static final int RUNS = 3000, CALLS = 512;
+    private static final int RUNS = 3000, CALLS = 512, JOIN = 3;
     private static final int[] ODD = {-2, -1, 0, 1, 7, 8, 60, 61, 99, 100, 400, Integer.MIN_VALUE, Integer.MAX_VALUE};
     private static final String[] NAMES = {
         "item", "consent", "act", "join", "clash", "cut", "tries", "tick", "slip", "cash", "state"};
@@ -31,6 +33,7 @@ public final class ModelTest {
     private static void runAsModel(Checks c, int run, Set<String> seen) {
         Random random = new Random(run);
         DoorActs x = new DoorActs();
+        DoorActs spared = new DoorActs();
         Model model = new Model();
         int itemsUsed = run % 5 == 0 ? 60 : 4;
         boolean crowded = run % 3 == 0;
@@ -39,9 +42,15 @@ public final class ModelTest {
             now += random.nextInt(6) == 0 ? random.nextInt(2000) : random.nextInt(3);
             int[] n = i < itemsUsed / 2 ? new int[] {0, random.nextInt(6), random.nextInt(3)} : choose(random, itemsUsed, crowded);
             long t = chooseLong(random, n, now);
-            int got = ask(x, n, t);
-            int want = ask(model, n, t);
-            c.due("run " + run + ", call " + i + ", " + NAMES[n[0]] + " of " + Arrays.toString(n) + ", " + t, got, want);
+            Call call = call(n, t);
+            int got = call.on(x);
+            // Below zero a join may also tell of a clash.
+            boolean refused = n[0] == JOIN ? !model.isOff(n[1]) : got < 0;
+            int want = call.on(model);
+            c.due("run " + run + ", call " + i + ", " + call, got, want);
+            if (!refused) {
+                c.due("run " + run + ", call " + i + ", " + call + ", without those refused", call.on(spared), want);
+            }
             seen.add(NAMES[n[0]] + " " + got);
         }
     }
@@ -88,35 +97,19 @@ public final class ModelTest {
         return odd ? now - 1 : now;
     }
 
-    private static int ask(DoorActs x, int[] n, long t) {
+    private static Call call(int[] n, long t) {
         return switch (n[0]) {
-            case 0 -> x.item(n[1], n[2]);
-            case 1 -> x.consent(n[1], n[2], n[4]);
-            case 2 -> x.act(n[1], n[2], n[3], n[4], n[5], t);
-            case 3 -> x.join(n[1]);
-            case 4 -> x.clash(n[1], n[2]);
-            case 5 -> x.cut(n[1], n[2] != 0) ? 1 : 0;
-            case 6 -> x.tries(n[2]);
-            case 7 -> x.tick(t);
-            case 8 -> x.slip(n[2], n[4]);
-            case 9 -> x.cash(n[2], t);
-            default -> x.state(n[2]);
-        };
-    }
-
-    private static int ask(Model x, int[] n, long t) {
-        return switch (n[0]) {
-            case 0 -> x.item(n[1], n[2]);
-            case 1 -> x.consent(n[1], n[2], n[4]);
-            case 2 -> x.act(n[1], n[2], n[3], n[4], n[5], t);
-            case 3 -> x.join(n[1]);
-            case 4 -> x.clash(n[1], n[2]);
-            case 5 -> x.cut(n[1], n[2] != 0) ? 1 : 0;
-            case 6 -> x.tries(n[2]);
-            case 7 -> x.tick(t);
-            case 8 -> x.slip(n[2], n[4]);
-            case 9 -> x.cash(n[2], t);
-            default -> x.state(n[2]);
+            case 0 -> Call.item(n[1], n[2]);
+            case 1 -> Call.consent(n[1], n[2], n[4]);
+            case 2 -> Call.act(n[1], n[2], n[3], n[4], n[5], t);
+            case JOIN -> Call.join(n[1]);
+            case 4 -> Call.clash(n[1], n[2]);
+            case 5 -> Call.cut(n[1], n[2] != 0);
+            case 6 -> Call.tries(n[2]);
+            case 7 -> Call.tick(t);
+            case 8 -> Call.slip(n[2], n[4]);
+            case 9 -> Call.cash(n[2], t);
+            default -> Call.state(n[2]);
         };
     }
 

@@ -8,7 +8,48 @@ public final class OffLineTest {
         itDoesNotSeeTheDay(c);
         twoDevices(c);
         cutAgainKnowsAnew(c);
+        consentsAsTheyAre(c);
+        cashAsItIs(c);
         c.end();
+    }
+
+    private static void consentsAsTheyAre(Checks c) {
+        DoorActs x = Acts.withItem(0);
+        x.item(0, 1);
+        x.item(0, 1);
+        x.item(0, 1);
+        x.consent(1, 0, 2);
+        x.consent(1, 2, 0);
+        x.cut(3, true);
+        c.due("a neighbour", Acts.hand(x, 3, 1, 2, -1, 0), 3);
+        c.due("left", Acts.leave(x, 3, 2, 0), 4);
+        x.consent(1, 0, 2);
+        x.consent(1, 2, 0);
+        c.due("no neighbour any more", Acts.hand(x, 3, 3, 2, -1, 0), DoorActs.WHO);
+        c.due("left no more", Acts.leave(x, 3, 3, 0), DoorActs.WHO);
+        c.due("no order yet", Acts.refuse(x, 3, 3, 4, 0), DoorActs.WHO);
+        x.consent(1, 1, 4);
+        c.due("an order told since then", Acts.refuse(x, 3, 3, 4, 0), 7);
+        x.consent(1, 0, 5);
+        c.due("a neighbour told since then", Acts.hand(x, 3, 4, 5, -1, 0), 3);
+        c.due("all is done, also what was consented to then", x.join(3), 4);
+        c.due("a neighbour", x.state(1), 5);
+        c.due("left", x.state(2), 6);
+        c.due("refused", x.state(3), 7);
+        c.due("a neighbour", x.state(4), 5);
+    }
+
+    private static void cashAsItIs(Checks c) {
+        DoorActs x = Acts.withItem(5);
+        x.cash(1, 100);
+        x.cut(3, true);
+        c.due("400 are due", Acts.hand(x, 3, 1, 1, -1, 0), DoorActs.CASH);
+        x.cash(1, 399);
+        c.due("1 is due", Acts.hand(x, 3, 1, 1, -1, 0), DoorActs.CASH);
+        x.cash(1, 1);
+        c.due("nothing is due", Acts.hand(x, 3, 1, 1, -1, 0), 1);
+        c.due("join", x.join(3), 1);
+        c.due("handed over", x.state(1), 3);
     }
 
     private static void itsActsAreItsOwn(Checks c) {
