@@ -10,6 +10,11 @@ final class Call {
         this.n = numbers;
     }
 
+    /** A call by its name; true is 1 and false 0. */
+    static Call named(String name, long... numbers) {
+        return new Call(name, numbers);
+    }
+
     static Call item(int service, int receiver) {
         return new Call("item", service, receiver);
     }
