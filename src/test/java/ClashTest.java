@@ -78,6 +78,8 @@ public final class ClashTest {
         y.tick(8);
         c.due("join", y.join(4), -1);
         sides(c, y, 0, 1, 3, 4);
+        c.due("it goes back after the clash", y.tick(9), 1);
+        sides(c, y, 0, 1, 3, 4);
     }
 
     private static void many(Checks c) {
